@@ -39,7 +39,7 @@ public final class LatticeBench {
     private final Grid second = new Grid(SIDE + 1, SIDE, desk);
     private final Grid third = new Grid(SIDE + 1, SIDE, desk);
     private final Row asked = new Row(2 * SIDE);
-    private final Row factors = new Row(2 * SIDE);
+    private final Row factors = new Row(SIDE);
     private final int[] made = new int[SIDE * SIDE];
     private final long[] minors = new long[1 << SIDE];
 
@@ -967,9 +967,8 @@ public final class LatticeBench {
                 borrow >>= LIMB_BITS;
                 carry >>= LIMB_BITS;
             }
-            borrow += left[place + length] - carry;
-            left[place + length] = (int) (borrow & LIMB_MASK);
-            if (borrow >= 0) {
+            // The limb on top becomes 0 in the end and is not read again: only its sign matters.
+            if (borrow + left[place + length] - carry >= 0) {
                 return (int) guess;
             }
             // The guess was 1 too high: the divisor is put back once.
@@ -979,7 +978,6 @@ public final class LatticeBench {
                 left[place + k] = (int) (carry & LIMB_MASK);
                 carry >>= LIMB_BITS;
             }
-            left[place + length] = (int) (left[place + length] + carry & LIMB_MASK);
             return (int) (guess - 1);
         }
 

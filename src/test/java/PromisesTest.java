@@ -227,6 +227,11 @@ public final class PromisesTest {
         kind(0, row(1, 5, 1), row(0, 0, 1));
         kind(4, row(2, 0, 0, 0), row(0, 4, 0, 0), row(0, 0, 8, 0));
         kind(3, row(4, 0, 0), row(0, 2, 0), row(0, 0, 8));
+        kind(3, row(2, 0, 0), row(0, 4, 0), row(0, 0, 6));
+        kind(4, row(1, 0, 0, 0, 0), row(0, 1, 0, 0, 0), row(0, 0, 3, 0, 0), row(0, 0, 0, 6, 0),
+                row(0, 0, 0, 0, 6));
+        kind(3, row(1, 0, 0, 0, 0), row(0, 1, 0, 0, 0), row(0, 0, 3, 0, 0), row(0, 0, 0, 6, 0),
+                row(0, 0, 0, 0, 9));
         LatticeBench x = new LatticeBench();
         x.table(0, 3, 2);
         same("all leaves missing", x.about(0, 3), 4);
