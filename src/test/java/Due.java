@@ -67,6 +67,16 @@ final class Due {
         return text(numbers, columns);
     }
 
+    /** How many calls told() makes at most for an ANSWER of this text. */
+    static int mostCallsToRead(String text) {
+        int calls = 2;
+        for (String number : text.split(" ")) {
+            // Its length, its sign, a word beyond it, and a word for each 9 digits.
+            calls += 3 + (number.length() + 8) / 9;
+        }
+        return calls;
+    }
+
     static String text(BigInteger[][] numbers, int columns) {
         StringBuilder text = new StringBuilder();
         text.append(numbers.length).append('x').append(columns).append(':');

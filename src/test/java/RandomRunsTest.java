@@ -3,8 +3,10 @@ import java.util.Random;
 
 /** Random runs of calls on new objects, each answer held against the plain forms of Plain. */
 public final class RandomRunsTest {
-    private static final int RUNS = 260;
-    private static final int CALLS = 160;
+    private static final int RUNS = 1500;
+    /** An object is used for so many calls at most; those that read the ANSWER count, too. */
+    private static final int CALLS = 512;
+    private static final int CALLS_OF_A_STEP = 20;
 
     private static final Due DUE = new Due("RandomRunsTest");
 
@@ -13,6 +15,8 @@ public final class RandomRunsTest {
     private final int[][][] tables = new int[12][][];
     private final boolean[][] leaves = new boolean[12][];
     private String told = "none";
+    private String read = "none";
+    private int calls = 0;
     private final int run;
 
     private RandomRunsTest(int run) {
@@ -23,7 +27,10 @@ public final class RandomRunsTest {
     public static void main(String[] args) {
         for (int run = 0; run < RUNS; run++) {
             RandomRunsTest test = new RandomRunsTest(run);
-            for (int call = 0; call < CALLS; call++) {
+            for (int t = 0; t < 4; t++) {
+                test.fill(t);
+            }
+            while (test.calls < CALLS - CALLS_OF_A_STEP) {
                 test.step();
             }
         }
@@ -31,8 +38,15 @@ public final class RandomRunsTest {
     }
 
     private void check(String call, Object got, Object want) {
+        calls++;
         DUE.same("run " + run + ": " + call, got, want);
-        DUE.same("run " + run + ": ANSWER behind " + call, Due.told(bench), told);
+        boolean news = !told.equals(read);
+        int most = Due.mostCallsToRead(told);
+        if ((news || random.nextInt(8) == 0) && calls + most <= CALLS - CALLS_OF_A_STEP) {
+            DUE.same("run " + run + ": ANSWER behind " + call, Due.told(bench), told);
+            calls += most;
+            read = told;
+        }
     }
 
     private void tell(BigInteger[][] rows, int columns) {
@@ -126,7 +140,7 @@ public final class RandomRunsTest {
     private void step() {
         int kind = random.nextInt(34);
         if (kind < 4) {
-            fillOne();
+            fill(pick());
         } else if (kind < 9) {
             tableCalls(kind);
         } else if (kind < 14) {
@@ -140,8 +154,7 @@ public final class RandomRunsTest {
         }
     }
 
-    private void fillOne() {
-        int t = pick();
+    private void fill(int t) {
         int rows = random.nextInt(8) == 0 ? random.nextInt(8) - 1 : 1 + random.nextInt(5);
         int columns = random.nextInt(8) == 0 ? random.nextInt(8) - 1
                 : random.nextInt(4) == 0 ? 1 + random.nextInt(5) : 1 + run % 7 % 5;
@@ -404,6 +417,7 @@ public final class RandomRunsTest {
         }
         if (keep(a, rows)) {
             Due.fill(bench, a, rows);
+            calls += 1 + rows.length;
         }
     }
 }

@@ -137,36 +137,64 @@ public final class RulesTest {
         DUE.yes("a run of 512 dear calls takes " + taken + " bytes", taken < 400000);
     }
 
+    /** 12 calls that fill two TABLES, then 500 that change a LEAF or tell as much as they can. */
     private static int workHard(int[] numbers) {
         LatticeBench x = new LatticeBench();
         int answered = 0;
-        x.table(0, 5, 5);
-        x.table(1, 5, 5);
-        for (int k = 0; k < 510; k++) {
-            int at = k % 250 * 5;
-            int i = k / 2 % 5;
-            switch (k % 8) {
+        for (int t = 0; t < 2; t++) {
+            x.table(t, 5, 5);
+            for (int i = 0; i < 5; i++) {
+                change(x, t, i, numbers, 5 * t + i);
+            }
+        }
+        for (int k = 0; k < 500; k++) {
+            int i = k / 14 % 5;
+            switch (k % 14) {
                 case 0:
-                case 1:
-                case 2:
-                case 3:
-                    x.leaf(k % 2, i, numbers[at], numbers[at + 1], numbers[at + 2], numbers[at + 3],
-                            numbers[at + 4]);
+                case 7:
+                    change(x, k % 2, i, numbers, 10 + k);
                     break;
-                case 4:
+                case 1:
+                case 8:
                     answered += x.both(0, 1);
                     break;
+                case 2:
+                    answered += x.quotient(0, 0);
+                    break;
+                case 3:
+                    answered += x.sizes(0);
+                    break;
+                case 4:
+                    answered += x.solve(0, 1, i);
+                    break;
                 case 5:
-                    answered += x.quotient(0, 0) + x.sizes(0);
+                    answered += x.order(0, 1, i);
                     break;
                 case 6:
-                    answered += x.solve(0, 1, i) + x.kernel(1) + x.order(0, 1, i);
+                    answered += x.dual(1);
+                    break;
+                case 9:
+                    answered += x.join(0, 1);
+                    break;
+                case 10:
+                    answered += x.kernel(0);
+                    break;
+                case 11:
+                    answered += x.reach(1, 1, i);
+                    break;
+                case 12:
+                    answered += x.index(0, 0);
                     break;
                 default:
-                    answered += x.dual(1) + x.join(0, 1);
+                    answered += x.stair(1);
                     break;
             }
         }
         return answered;
+    }
+
+    private static void change(LatticeBench x, int t, int i, int[] numbers, int which) {
+        int at = 5 * which;
+        x.leaf(t, i, numbers[at], numbers[at + 1], numbers[at + 2], numbers[at + 3], numbers[at + 4]);
     }
 }
