@@ -31,13 +31,13 @@ public final class LatticeBench {
 
     private final Table[] tables = new Table[TABLES];
     private final Desk desk = new Desk();
-    private final Grid told = new Grid(ANSWER_ROWS, SIDE, desk);
+    private final Grid told = new Grid(ANSWER_ROWS, SIDE);
     private boolean anythingTold = false;
 
     // A stair of width w needs at most w rows, and one more for the row that comes next.
-    private final Grid wide = new Grid(2 * SIDE + 1, 2 * SIDE, desk);
-    private final Grid second = new Grid(SIDE + 1, SIDE, desk);
-    private final Grid third = new Grid(SIDE + 1, SIDE, desk);
+    private final Grid wide = new Grid(2 * SIDE + 1, 2 * SIDE);
+    private final Grid second = new Grid(SIDE + 1, SIDE);
+    private final Grid third = new Grid(SIDE + 1, SIDE);
     private final Row asked = new Row(2 * SIDE);
     private final Row factors = new Row(SIDE);
     private final int[] made = new int[SIDE * SIDE];
@@ -1085,14 +1085,14 @@ public final class LatticeBench {
     private static final class Grid {
         private final Row[] rows;
         private final int[] leads;
-        private final Desk desk;
+        // Its own, so that no constructor hands out what another object holds.
+        private final Desk desk = new Desk();
         private final Whole factor = new Whole();
         private final Whole product = new Whole();
         private int height = 0;
         private int width = 0;
 
-        Grid(int mostRows, int mostColumns, Desk desk) {
-            this.desk = desk;
+        Grid(int mostRows, int mostColumns) {
             leads = new int[mostRows];
             rows = new Row[mostRows];
             for (int i = 0; i < mostRows; i++) {

@@ -51,12 +51,12 @@ final class Due {
         return value.multiply(BigInteger.valueOf(bench.sign(i, j)));
     }
 
-    /** The whole ANSWER, such as "2x3: 1 0 4 / 0 2 1"; "none" ahead of any. */
-    static String told(LatticeBench bench) {
+    /** All numbers of the ANSWER; null ahead of any. */
+    static BigInteger[][] numbers(LatticeBench bench) {
         int rows = bench.answer(0);
         int columns = bench.answer(1);
         if (rows < 0) {
-            return "none";
+            return null;
         }
         BigInteger[][] numbers = new BigInteger[rows][columns];
         for (int i = 0; i < rows; i++) {
@@ -64,7 +64,13 @@ final class Due {
                 numbers[i][j] = number(bench, i, j);
             }
         }
-        return text(numbers, columns);
+        return numbers;
+    }
+
+    /** The whole ANSWER, such as "2x3: 1 0 4 / 0 2 1"; "none" ahead of any. */
+    static String told(LatticeBench bench) {
+        BigInteger[][] numbers = numbers(bench);
+        return numbers == null ? "none" : text(numbers, bench.answer(1));
     }
 
     /** How many calls told() makes at most for an ANSWER of this text. */
